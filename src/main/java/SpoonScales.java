@@ -1324,13 +1324,13 @@ public final class SpoonScales {
                     fail(FAULT_NUMBER);
                 }
                 law.emit(value);
-                closeOne();
+                wantsOne = false;
             } else if (token >= FIRST_NAME && token < FIRST_NAME + NAMES) {
                 if ((NAMES_OF[verb] >> (token - FIRST_NAME) & 1) == 0) {
                     fail(FAULT_NAME);
                 }
                 law.emit(CODED + token);
-                closeOne();
+                wantsOne = false;
             } else if (token == OPEN) {
                 brackets++;
                 openUp(OPEN);
@@ -1359,7 +1359,6 @@ public final class SpoonScales {
                 release(bindingOf(OR));
                 dropWaiting();
                 brackets--;
-                closeOne();
             } else {
                 fail(FAULT_PLACE);
             }
@@ -1383,11 +1382,7 @@ public final class SpoonScales {
             putWaiting(what);
         }
 
-        private void closeOne() {
-            wantsOne = false;
-            release(bindingOf(NEGATE));
-        }
-
+        /** A - of one ONE binds closest, so it is closed here ahead of all that can open behind it. */
         private void hold() {
             release(bindingOf(token));
             putWaiting(token);

@@ -15,6 +15,7 @@ public final class OracleTest {
         long calls = 0;
         for (int seed = 1; seed <= 1500 && wrong == 0; seed++) {
             calls += new Run(seed).go();
+            calls += new Run(-seed).seekAcquittals();
         }
         System.out.println(wrong == 0 ? calls + " calls are as the oracle's" : wrong + " calls are not as the oracle's");
         if (wrong != 0) System.exit(1);
@@ -30,13 +31,51 @@ public final class OracleTest {
         final int mood;
         int count = 0;
 
-        Run(int seed) { this.seed = seed; this.random = new Random(seed); this.mood = seed % 5; }
+        Run(int seed) { this.seed = seed; this.random = new Random(seed); this.mood = Math.abs(seed) % 5; }
 
         int go() {
             int most = 60 + random.nextInt(450);
             if (random.nextInt(4) > 0) setUp();
             while (count < most && wrong == 0) step();
             return count;
+        }
+
+        /** Where it counts who eats first: laws by which a spoon hangs on those ahead of it. */
+        int seekAcquittals() {
+            String[] eats = {"left/10+1", "left-left/3*3+1", "spoons+1", "7-spoons*2", "eaten+1", "9-eaten", "eater+spoons*kind+1", "left*(eater+1)/20",
+                "hunger+1-eaten/3", "(spoons+eater)*2-kind", "side+left/(spoons+2)", "4"};
+            String[] guilty = {"tilt#0", "tilt<0", "tilt*tilt>2", "honey#salt", "honey-salt<3", "honey+salt#7", "tilt#-honey", "salt>2 or tilt<1"};
+            int eaters = 2 + random.nextInt(3);
+            for (int i = 0; i < eaters; i++) callEater();
+            for (int i = 0; i < eaters; i++) callSit(i, random.nextInt(2));
+            for (int p = 0; p < 4; p++) callPot(p / 2, p % 2, random.nextInt(24));
+            for (int i = 0; i < 4; i++) {
+                String holds = random.nextInt(3) == 0 ? "holds " + random.nextInt(15) + "+eater;" : "";
+                String law = "eats " + eats[random.nextInt(eats.length)] + ";" + holds + "guilty " + guilty[random.nextInt(guilty.length)] + ";";
+                bring(law, law.length());
+                due("text() of " + law, scales.text(), oracle.text());
+                due("by(" + i + ")", scales.by(i), oracle.by(i));
+                callAcquitted();
+                for (int more = 0; more < 4; more++) {
+                    change();
+                    callAcquitted();
+                }
+            }
+            return count;
+        }
+
+        /** One call that may change what an acquittal takes. */
+        void change() {
+            int r = random.nextInt(9);
+            int e = who(), k = random.nextInt(2), n = 1 + random.nextInt(3);
+            if (r == 0) callPot(random.nextInt(2), k, random.nextInt(24));
+            else if (r == 1) callSit(e, random.nextInt(3));
+            else if (r == 2 || r == 3) due("spoon(" + e + ", " + k + ")", scales.spoon(e, k), oracle.spoon(e, k));
+            else if (r == 4) due("judge(" + k + ")", scales.judge(k), oracle.judge(k));
+            else if (r == 5) due("flies(" + n + ")", scales.flies(n), oracle.flies(n));
+            else if (r == 6) due("undo()", scales.undo(), oracle.undo());
+            else if (r == 7) due("image()", scales.image(), oracle.image());
+            else due("by(" + (n - 2) + ")", scales.by(n - 2), oracle.by(n - 2));
         }
 
         void due(String call, long got, long want) {
@@ -173,6 +212,13 @@ public final class OracleTest {
 
         void callText() {
             String text = new Words(random).text();
+            bring(text, random.nextInt(20) == 0 ? any(0, 300) : text.length());
+            if (random.nextInt(12) == 0) return;
+            due("text() of [" + text + "]", scales.text(), oracle.text());
+            for (int w = -1; w < 3; w++) due("fault(" + w + ")", scales.fault(w), oracle.fault(w));
+        }
+
+        void bring(String text, int n) {
             byte[] bytes = text.getBytes(java.nio.charset.StandardCharsets.ISO_8859_1);
             for (int at = 0; at < bytes.length; at += 20) {
                 int[] f = new int[5];
@@ -182,11 +228,7 @@ public final class OracleTest {
                 }
                 due("feed(" + Arrays.toString(f) + ")", scales.feed(f[0], f[1], f[2], f[3], f[4]), oracle.feed(f));
             }
-            int n = random.nextInt(20) == 0 ? any(0, 300) : bytes.length;
             due("end(" + n + ")", scales.end(n), oracle.end(n));
-            if (random.nextInt(12) == 0) return;
-            due("text() of [" + text + "]", scales.text(), oracle.text());
-            for (int w = -1; w < 3; w++) due("fault(" + w + ")", scales.fault(w), oracle.fault(w));
         }
     }
 

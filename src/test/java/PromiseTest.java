@@ -356,7 +356,7 @@ public final class PromiseTest {
             "judge", "judge 1", "flies", "flies 1", "judge 1;\n  judge 1 \n"};
         for (String s : ends) dueFault(s, 1, s.length());
         // What can't stand at the place of ^.
-        String[] wrongs = {"^eat 1;", "^EATS 1;", "^eatss 1;", "^1;", "^;", "^<", "^?", "^eater;", "^at 1", "^or", "judge 1^ 1;", "judge ^eater;",
+        String[] wrongs = {"^eat 1;", "^EATS 1;", "^eatss 1;", "^eatsz 1;", "^eatsa 1;", "^eatsA 1;", "^eatsZ 1;", "eats 1^@;", "eats 1^[;", "eats 1^`;", "eats 1^{;", "eats 1^:;", "^1;", "^;", "^<", "^?", "^eater;", "^at 1", "^or", "judge 1^ 1;", "judge ^eater;",
             "judge 1;^;", "eats ^;", "eats 1^ 1;", "eats 1^ hunger;", "eats 1^ (1);", "eats 1^);", "eats (1^;", "eats (^);", "eats 1^ not;",
             "eats ^not 1<2;", "eats 1^<2;", "eats ^+1;", "eats 1+^+1;", "eats 1*^/1;", "eats 1^ and 1;", "eats ^eats;", "eats 1^?;", "eats ^?;",
             "guilty 1^;", "guilty 1<2^<3;", "guilty (1^<2);", "guilty 1<2^ not;", "guilty 1<^not 2;", "guilty (^not 1<2);", "guilty -^not 1<2;",
@@ -632,6 +632,35 @@ public final class PromiseTest {
         due("the lowest eater of like ones", x.acquitted(0, 0), 1);
         due("nothing changes", x.written(-1, 0), 0);
 
+        // What is asked again is asked of what is now, whatever changed it.
+        SpoonScales w = pots(0, 0, 0, 4);
+        w.eater(3, 9, 0);
+        w.eater(1, 9, 0);
+        due("all are away", w.acquitted(0, -1), -3);
+        w.image();
+        w.sit(1, 1);
+        due("behind sit", w.acquitted(0, -1), 2);
+        w.undo();
+        due("behind undo", w.acquitted(0, -1), -3);
+        w.sit(0, 1);
+        w.sit(1, 1);
+        due("behind sit", w.acquitted(0, -1), 1);
+        due("who", w.acquitted(0, 0), 1);
+        w.spoon(1, 1);
+        due("behind a spoon: alike, but the lower one", w.acquitted(0, 0), 1);
+        w.spoon(0, 1);
+        due("behind a spoon", w.acquitted(0, -1), 0);
+        w.back();
+        due("behind back", w.acquitted(0, -1), -3);
+        ruledBy(w, "guilty dents<1;");
+        due("behind by", w.acquitted(1, -1), -3);
+        w.judge(0);
+        due("behind judge", w.acquitted(1, -1), 0);
+        ruledBy(w, "guilty salt>3;");
+        due("behind by", w.acquitted(1, -1), -3);
+        w.flies(1);
+        due("behind flies", w.acquitted(1, -1), 0);
+
         // Fewer spoons count before less honey; of two honeys the lesser before the lower number.
         SpoonScales y = pots(0, 0, 6, 2);
         seated(y, 9, 9, 0, 1);
@@ -777,6 +806,11 @@ public final class PromiseTest {
         x.undo();
         x.undo();
         due("taken back", x.contrary(), -1);
+        SpoonScales y = new SpoonScales();
+        ruledBy(y, "guilty dents/2*2=dents;");
+        y.judge(1);
+        y.judge(1);
+        due("the first two", y.contrary(), 1);
     }
 
     static void odds() {
@@ -875,6 +909,43 @@ public final class PromiseTest {
         due("none", x.written(-1, 0), 0);
         due("the image is behind both", x.back(), 2);
         due("written", x.written(1, 3), 2);
+        manyRows();
+    }
+
+    /** All rows and steps are kept, though others come in their places. */
+    private static void manyRows() {
+        SpoonScales x = pots(999, 999, 999, 999);
+        seated(x, 0, 9, 0, 0);
+        seated(x, 1, 9, 0, 1);
+        for (int i = 0; i < 45; i++) x.spoon(i % 2, 0);
+        due("image", x.image(), 45);
+        for (int i = 0; i < 30; i++) x.undo();
+        for (int i = 0; i < 45; i++) x.spoon(1 - i % 2, 1);
+        due("others", x.written(44, 2), 1);
+        due("back", x.back(), 45);
+        for (int i = 0; i < 45; i++) {
+            due("eater", x.written(i, 0), i % 2);
+            due("kind", x.written(i, 2), 0);
+            due("grains", x.written(i, 3), 1 + i % 2);
+        }
+        for (int i = 29; i >= 0; i--) {
+            due("undo", x.undo(), i);
+            due("spoons", x.written(-1, 0), i + 15);
+            due("honey", x.about(10) + x.about(12), 2 * 999 - (i + 15) - (i + 15) / 2);
+        }
+        SpoonScales y = pots(0, 0, 0, 0);
+        for (int i = 0; i < 30; i++) y.judge(i % 2);
+        y.image();
+        for (int i = 0; i < 30; i++) y.undo();
+        y.pot(0, 0, 9);
+        for (int i = 0; i < 30; i++) y.judge(1 - i % 2);
+        due("others", y.dent(29, 1), 9);
+        y.back();
+        for (int i = 0; i < 30; i++) {
+            due("side", y.dent(i, 0), i % 2);
+            due("tilt", y.dent(i, 1), 0);
+            due("guilty", y.dent(i, 2), 0);
+        }
     }
 
     static void back() {
