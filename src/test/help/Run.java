@@ -175,5 +175,11 @@ final class Run {
         new Run().ruledBy("guilty " + either + ";").due(guilty, "judge", 1);
     }
 
+    /** That two sums are alike, by each sign that tells it. */
+    static void dueAlike(String sum, String other) {
+        for (String sign : new String[] {"=", "<=", ">="}) dueVerdict(true, sum + sign + other);
+        for (String sign : new String[] {"#", "<", ">"}) dueVerdict(false, sum + sign + other);
+    }
+
     static String times(int n, String s) { return s.repeat(n); }
 }

@@ -80,13 +80,22 @@ public final class BoundaryAskedTest {
 
     static void p17_theLastAndOneBeyond() {
         Run r = Run.pots(99, 0, 0, 0).seated(0, 1, 0, 0).seated(1, 1, 0, 0);
-        for (int i = 0; i < 5; i++) r.due(1 + i % 2, "spoon", i % 2, 0).due(i + 1, "written", -1, 0).due(i % 2, "written", i, 0).due(-2, "written", i + 1, 0);
+        for (int i = 0; i < 5; i++) r.due(1 + i % 2, "spoon", i % 2, 0).due(i + 1, "written", -1, 0).due(i % 2, "written", i, 0).due(-2, "written", i + 1, 0).due(-2, "written", i + 2, 3);
         r.idle(-2, "written", 5, 0).idle(-2, "written", MOST, 0).idle(-2, "written", 1 << 30, 0);
     }
 
     static void p17_whatBelow0() { Run.pots(9, 0, 0, 0).seated(8, 1, 0, 0).due(9, "spoon", 0, 0).due(0, "written", 0, 0).idle(-2, "written", 0, -1).idle(-2, "written", 0, LEAST); }
 
     static void p17_whatAbove3() { Run.pots(9, 0, 0, 0).seated(8, 1, 0, 0).due(9, "spoon", 0, 0).due(9, "written", 0, 3).idle(-2, "written", 0, 4).idle(-2, "written", 0, MOST); }
+
+    static void p17_eachSideAndKind() {
+        Run r = Run.pots(9, 9, 9, 9).seated(1, 9, 0, 0).seated(2, 9, 0, 1);
+        int[][] rows = {{1, 1, 1, 3}, {0, 0, 1, 2}, {1, 1, 0, 3}, {0, 0, 0, 2}};
+        for (int[] row : rows) r.due(row[3], "spoon", row[0], row[2]);
+        for (int i = 0; i < 4; i++) for (int what = 0; what < 4; what++) r.due(rows[i][what], "written", i, what);
+        // The SIDE is that of then.
+        r.due(true, "sit", 1, 0).due(1, "written", 0, 1).due(true, "sit", 1, 2).due(1, "written", 2, 1);
+    }
 
     static void p17_sixty() {
         Run r = nineSeated(60);
@@ -106,7 +115,7 @@ public final class BoundaryAskedTest {
 
     static void p18_theLastAndOneBeyond() {
         Run r = new Run();
-        for (int i = 0; i < 30; i++) r.due(0, "judge", i % 2).due(i + 1, "dent", -1, 0).due(i % 2, "dent", i, 0).due(-9999, "dent", i + 1, 0);
+        for (int i = 0; i < 30; i++) r.due(0, "judge", i % 2).due(i + 1, "dent", -1, 0).due(i % 2, "dent", i, 0).due(-9999, "dent", i + 1, 0).due(-9999, "dent", i + 2, 1);
         r.idle(-9999, "dent", 30, 0).idle(-9999, "dent", MOST, 0).idle(-9999, "dent", 1 << 30, 0);
     }
 
@@ -131,13 +140,14 @@ public final class BoundaryAskedTest {
         Run r = Run.pots(9, 0, 0, 0).due(-9999, "called", 1, 0, -1).seated(0, 1, 0, 0).due(8, "called", 1, 0, -1).idle(-9999, "called", 2, 0, -1).idle(-9999, "called", 3, 0, -1);
         r.idle(-9999, "called", MOST, 0, -1).seated(0, 1, 0, 0).due(7, "called", 3, 0, -1).due(-9999, "called", 5, 0, -1);
         Run nine = nineSeated(99).due(98, "called", 256, 0, -1).due(8, "called", 256, 0, 0).idle(-9999, "called", 512, 0, -1).idle(-9999, "called", 513, 0, -1).idle(-9999, "called", 256 | LEAST, 0, -1);
-        nine.due(-9999, "called", 1 << 30, 0, -1);
+        nine.due(-9999, "called", 1 << 30, 0, -1).due(-9999, "called", 1 << 30, 0, 0).due(-9999, "called", 1025, 0, 0);
     }
 
     static void p19_sixAndASeventh() {
         Run r = nineSeated(99);
         int[] sets = {1, 3, 7, 15, 31, 63};
-        for (int n = 1; n <= 6; n++) r.due(99 - n, "called", sets[n - 1], 0, -1).due(n - 1, "called", sets[n - 1], 0, n - 1).due(-9999, "called", sets[n - 1], 0, n);
+        for (int n = 1; n <= 6; n++) r.due(99 - n, "called", sets[n - 1], 0, -1).due(n - 1, "called", sets[n - 1], 0, n - 1);
+        for (int n = 1; n <= 6; n++) for (int i = n; i <= 7; i++) r.due(-9999, "called", sets[n - 1], 0, i);
         r.due(93, "called", 0b111111000, 0, -1).due(3, "called", 0b111111000, 0, 0).due(8, "called", 0b111111000, 0, 5);
         r.idle(-9999, "called", 127, 0, -1).idle(-9999, "called", 127, 0, 0).idle(-9999, "called", 0b111111100, 0, -1).idle(-9999, "called", 255, 0, -1).idle(-9999, "called", 511, 0, -1);
     }
@@ -205,7 +215,8 @@ public final class BoundaryAskedTest {
         for (int n = 1; n <= 4; n++) {
             Run r = Run.pots(0, 0, 0, n).seated(0, 1, 0, 1).idle(n, "acquitted", 0, -1).idle(0, "acquitted", 0, -2);
             for (int i = 0; i < n; i++) r.due(1, "acquitted", 0, i);
-            r.idle(-3, "acquitted", 0, n).idle(-3, "acquitted", 0, MOST);
+            for (int i = n; i <= 5; i++) r.idle(-3, "acquitted", 0, i);
+            r.idle(-3, "acquitted", 0, MOST);
         }
     }
 
@@ -260,6 +271,36 @@ public final class BoundaryAskedTest {
         Run.pots(0, 0, 0, 11).seated(0, 9, 0, 1).ruledBy("eats spoons+1;").due(-3, "acquitted", 0, -1).due(1, "spoon", 0, 1).due(4, "acquitted", 0, -1);
     }
 
+    /** The lower one first would be alike, or not: what the second eats hangs on the first. */
+    static void p20_theOrderCounts() {
+        // The first one eats 1 always, the second 4, then 2, then nothing: 1 and 2 are 3, but 4 and 1 are 5.
+        Run r = Run.pots(0, 0, 0, 5).seated(0, 9, 0, 1).seated(3, 9, 0, 1).ruledBy("eats hunger+1-spoons*eater*2;").due(2, "acquitted", 0, -1).due(3, "acquitted", 0, 0).due(1, "acquitted", 0, 1);
+        r.due(true, "pot", 1, 1, 6).due(2, "acquitted", 0, -1).due(3, "acquitted", 0, 0).due(3, "acquitted", 0, 1);
+        r.due(true, "pot", 1, 1, 7).due(3, "acquitted", 0, -1).due(3, "acquitted", 0, 0).due(3, "acquitted", 0, 1).due(1, "acquitted", 0, 2);
+        // Of HONEY then SALT: left is what counts.
+        Run s = Run.pots(0, 0, 8, 8).seated(0, 9, 0, 1).ruledBy("eats left/2+kind*spoons*9;guilty honey+salt>2;").due(3, "acquitted", 1, -1).due(0, "acquitted", 1, 0).due(0, "acquitted", 1, 1).due(1, "acquitted", 1, 2);
+        s.due(6, "acquitted", 1, -2);
+    }
+
+    static void p20_side1() {
+        for (int n = 1; n <= 4; n++) {
+            Run r = Run.pots(0, n, 0, 0).seated(0, 9, 0, 0).due(n, "acquitted", 1, -1).due(0, "acquitted", 1, -2).due(0, "acquitted", 0, -1);
+            for (int i = 0; i < n; i++) r.due(1, "acquitted", 1, i);
+            r.due(true, "pot", 0, 1, 0).due(true, "pot", 0, 0, n).due(n, "acquitted", 1, -1).due(n, "acquitted", 1, -2).due(0, "acquitted", 1, 0);
+        }
+        Run.pots(0, 5, 0, 0).seated(0, 9, 0, 0).due(-3, "acquitted", 1, -1);
+    }
+
+    /** Asked again, it is of what is now, whatever has changed since. */
+    static void p20_askedAgain() {
+        Run r = Run.pots(0, 0, 2, 0).seated(0, 9, 0, 1).due(2, "acquitted", 0, -1).due(2, "acquitted", 0, -2).due(0, "image").due(1, "spoon", 0, 0).due(1, "acquitted", 0, -1).due(1, "acquitted", 0, -2);
+        r.due(1, "spoon", 0, 0).due(0, "acquitted", 0, -1).due(0, "acquitted", 0, -2).due(2, "undo").due(1, "acquitted", 0, -1).due(0, "back").due(2, "acquitted", 0, -1).due(2, "acquitted", 0, -2);
+        r.due(true, "sit", 0, 2).due(-3, "acquitted", 0, -1).due(1, "undo").due(2, "acquitted", 0, -1).due(true, "pot", 0, 0, 2).due(0, "acquitted", 0, -2).due(true, "pot", 0, 0, 1).due(1, "acquitted", 0, -1);
+        Run.pots(0, 0, 0, 1).due(-3, "acquitted", 0, -1).due(1, "flies", 1).due(0, "acquitted", 0, -1).due(0, "undo").due(-3, "acquitted", 0, -1);
+        new Run().ruledBy("guilty dents=0;").due(-3, "acquitted", 0, -1).due(1, "judge", 0).due(0, "acquitted", 0, -1).due(0, "undo").due(-3, "acquitted", 0, -1);
+        Run.pots(0, 0, 0, 1).told(0, "flies 1;").due(-3, "acquitted", 0, -1).due(-1, "played", 0).due(0, "acquitted", 0, -1).due(0, "back").due(0, "acquitted", 0, -1);
+    }
+
     static void p20_asTheLawIsNow() {
         Run r = Run.pots(0, 0, 0, 1).seated(0, 9, 0, 1).due(1, "acquitted", 0, -1).ruledBy("guilty 1=1;").due(-3, "acquitted", 0, -1).due(-3, "acquitted", 1, -1).ruledBy("guilty 1=2;").due(0, "acquitted", 0, -1);
         r.ruledBy("eats 0;").due(-3, "acquitted", 0, -1).due(true, "by", -1).due(1, "acquitted", 0, -1);
@@ -286,6 +327,16 @@ public final class BoundaryAskedTest {
     }
 
     static void p21_thereAreNone() { Run.pots(5, 0, 0, 0).seated(1, 1, 0, 0).due(0, "sets", 0, 0, 4, -1).due(-1, "sets", 0, 0, 4, 0).due(0, "sets", 0, 0, 6, -1).due(-1, "sets", 0, 0, 6, 0); }
+
+    static void p21_eachPot() {
+        for (int pot = 0; pot < 4; pot++) {
+            Run r = Run.pots(50, 60, 70, 80).seated(0, 9, 0, 0).seated(2, 9, 0, 1).ruledBy("eats hunger+1+kind;");
+            int full = 50 + 10 * pot;
+            int eaten = (pot < 2 ? 1 : 3) + pot % 2;
+            r.due(2, "sets", pot / 2, pot % 2, full, -1).due(0, "sets", pot / 2, pot % 2, full, 0).due(pot < 2 ? 2 : 1, "sets", pot / 2, pot % 2, full, 1);
+            r.due(2, "sets", pot / 2, pot % 2, full - eaten, -1).due(pot < 2 ? 1 : 2, "sets", pot / 2, pot % 2, full - eaten, 0).due(3, "sets", pot / 2, pot % 2, full - eaten, 1);
+        }
+    }
 
     static void p21_theEmptySet() { new Run().due(1, "sets", 0, 0, 0, -1).due(0, "sets", 0, 0, 0, 0).due(-1, "sets", 0, 0, 0, 1).due(0, "sets", 0, 0, 1, -1).due(true, "pot", 0, 0, 1).due(0, "sets", 0, 0, 0, -1).due(1, "sets", 0, 0, 1, -1); }
 

@@ -331,51 +331,44 @@ public final class BoundaryByHandTest {
     static void p07_aboveAMillion() {
         // 9999*100 is 999900.
         Run.dueVerdict(false, "9999*100+99=9999*100+100");
-        Run.dueVerdict(true, "9999*100+100=1000*1000");
-        Run.dueVerdict(true, "9999*100+101=1000*1000");
-        Run.dueVerdict(true, "1000*1000=1000*1001");
-        Run.dueVerdict(true, "999*1001=1000*1000-1");
-        Run.dueVerdict(true, "9999*9999=1000*1000");
-        Run.dueVerdict(true, "1000*1000--1=1000*1000");
-        Run.dueVerdict(true, "9999*9999*9999*9999=1000*1000");
+        Run.dueAlike("999*1001", "1000*1000-1");
+        for (String sum : new String[] {"9999*100+100", "9999*100+101", "1000*1001", "9999*9999", "1000*1000--1", "9999*9999*9999*9999"}) Run.dueAlike(sum, "1000*1000");
     }
 
     static void p07_belowAMillionLess() {
         Run.dueVerdict(false, "-9999*100-99=-9999*100-100");
-        Run.dueVerdict(true, "-9999*100-100=-1000*1000");
-        Run.dueVerdict(true, "-9999*100-101=-1000*1000");
-        Run.dueVerdict(true, "-1000*1000=-1000*1001");
-        Run.dueVerdict(true, "-9999*9999=-1000*1000");
-        Run.dueVerdict(true, "-1000*1000+-1=-1000*1000");
-        Run.dueVerdict(true, "-(9999*9999)*9999=-1000*1000");
-        Run.dueVerdict(true, "-1000*1000*-1000=1000*1000");
+        Run.dueAlike("-999*1001", "-1000*1000+1");
+        for (String sum : new String[] {"-9999*100-100", "-9999*100-101", "-1000*1001", "-9999*9999", "-1000*1000+-1", "-(9999*9999)*9999"}) Run.dueAlike(sum, "-1000*1000");
+        Run.dueAlike("-1000*1000*-1000", "1000*1000");
     }
 
     /** What is above a million is a million at each step, not at the end alone. */
     static void p07_aMillionAtEachStep() {
-        Run.dueVerdict(true, "1000*1000+5-5=1000*1000-5");
-        Run.dueVerdict(true, "-1000*1000-5+5=-1000*1000+5");
-        Run.dueVerdict(true, "1000*2000/2=1000*500");
-        Run.dueVerdict(true, "-1000*2000/2=-1000*500");
-        Run.dueVerdict(true, "1000*2000-1000*1000=0");
-        Run.dueVerdict(true, "(1000*1000+1)*1-1=999*1001");
+        Run.dueAlike("1000*1000+5-5", "1000*1000-5");
+        Run.dueAlike("-1000*1000-5+5", "-1000*1000+5");
+        Run.dueAlike("1000*2000/2", "1000*500");
+        Run.dueAlike("-1000*2000/2", "-1000*500");
+        Run.dueAlike("1000*2000-1000*1000", "0");
+        Run.dueAlike("(1000*1000+1)*1-1", "999*1001");
     }
 
     static void p07_dividedBy0() {
-        for (String sum : new String[] {"5/0", "0/0", "-5/0", "9999*9999/0", "5/(1-1)", "5/-0"}) Run.dueVerdict(true, sum + "=0");
-        Run.dueVerdict(true, "5/0+3=3");
-        Run.dueVerdict(true, "5/1=5");
-        Run.dueVerdict(true, "5/-1=-5");
+        for (String sum : new String[] {"5/0", "0/0", "-5/0", "9999*9999/0", "5/(1-1)", "5/-0"}) Run.dueAlike(sum, "0");
+        Run.dueAlike("5/0+3", "3");
+        Run.dueAlike("5/1", "5");
+        Run.dueAlike("5/-1", "-5");
     }
 
     static void p07_cutsTowards0() {
-        String[] sums = {"1/2=0", "-1/2=0", "1/-2=0", "7/2=3", "-7/2=-3", "7/-2=-3", "-7/-2=3", "6/2=3", "5/2=2", "-(7/2)=-3", "1999/2000=0", "-1999/2000=0", "2000/2000=1", "-2000/2000=-1"};
-        for (String sum : sums) Run.dueVerdict(true, sum);
+        String[][] sums = {{"1/2", "0"}, {"-1/2", "0"}, {"1/-2", "0"}, {"7/2", "3"}, {"-7/2", "-3"}, {"7/-2", "-3"}, {"-7/-2", "3"}, {"6/2", "3"}, {"5/2", "2"}, {"-(7/2)", "-3"}, {"1999/2000", "0"}, {"-1999/2000", "0"}, {"2000/2000", "1"},
+            {"-2000/2000", "-1"}};
+        for (String[] sum : sums) Run.dueAlike(sum[0], sum[1]);
     }
 
     static void p07_fromTheLeft() {
-        String[] sums = {"9-3-2=4", "9-(3-2)=8", "64/8/2=4", "64/(8/2)=16", "7/2*2=6", "2*7/2=7", "1+2*3=7", "(1+2)*3=9", "-2*3=-6", "--2=2", "1--2=3"};
-        for (String sum : sums) Run.dueVerdict(true, sum);
+        String[][] sums = {{"9-3-2", "4"}, {"9-(3-2)", "8"}, {"9-3+2", "8"}, {"64/8/2", "4"}, {"64/(8/2)", "16"}, {"7/2*2", "6"}, {"2*7/2", "7"}, {"1+2*3", "7"}, {"(1+2)*3", "9"}, {"3*(1+2)", "9"}, {"((1+2)*(3+4))", "21"}, {"-2*3", "-6"}, {"--2", "2"},
+            {"1--2", "3"}, {"-(1+2)", "-3"}, {"-1+2", "1"}};
+        for (String[] sum : sums) Run.dueAlike(sum[0], sum[1]);
     }
 
     static void p07_orAndAndNot() {
@@ -383,6 +376,11 @@ public final class BoundaryByHandTest {
         String[] no = {"1=2 or 1=2", "1=1 and 1=2", "1=2 and 1=1", "1=2 and 1=2", "not 1=1", "not not 1=2", "1=2 or 1=1 and 1=2", "not 1=2 and 1=2", "not 1=1 or 1=2", "not 1=1 and 1=1"};
         for (String s : yes) Run.dueVerdict(true, s);
         for (String s : no) Run.dueVerdict(false, s);
+        for (String so : new String[] {"1<2", "1<=1", "2>1", "1>=1", "1=1", "1#2"}) {
+            for (String too : new String[] {"1<2", "2<=2", "2>1", "2>=2", "2=2", "1#2"}) Run.dueVerdict(true, so + " and " + too);
+            Run.dueVerdict(false, "not " + so);
+            Run.dueVerdict(true, "not not " + so);
+        }
     }
 
     // Promise 8: flies.

@@ -70,6 +70,12 @@ public final class BoundaryTextTest {
         new Run().tape("judge 1;????????????").due(8, "end", 8).due(28, "feed", BLANKS, BLANKS, BLANKS, BLANKS, BLANKS).due(0, "text");
     }
 
+    /** What was cut off behind a TOKEN's part is no part of it. */
+    static void p10_cutInsideAToken() {
+        Object[][] cases = {{"guilty 1<=1;", 9, 1, 9}, {"guilty 1>=1;", 9, 1, 9}, {"judge 22;", 7, 2, 6}, {"judge 12;", 7, 1, 7}, {"eats 10000;", 9, 1, 9}, {"eatss", 4, 1, 4}, {"eats", 3, 1, 0}, {"eats eaten", 9, 1, 5}, {"eats spoons", 10, 1, 5}};
+        for (Object[] c : cases) new Run().tape((String) c[0]).due((int) c[1], "end", c[1]).due(-1, "text").due((int) c[2], "fault", 0).due((int) c[3], "fault", 1);
+    }
+
     static void p10_cutToNothing() { new Run().tape("?").due(0, "end", 0).due(0, "text").due(-1, "played", 0); }
 
     // Promise 11: text.
@@ -102,6 +108,19 @@ public final class BoundaryTextTest {
     static void p11_nothingOfAFaultyOneStays() {
         Run r = new Run().due(0, "eater", 3, 1, 0).told(-1, "eats 7;holds 7;guilty 1=1;judge 1;judge 2;").told(0, "judge 0;").due(true, "by", 0);
         r.due(20, "of", 0, 5).due(-1, "played", 0).due(1, "about", 2).due(0, "dent", 0, 2);
+        // What was open when it ended is not open in the next one.
+        String deep = Run.times(8, "(") + "1" + Run.times(8, ")");
+        for (String open : new String[] {"eats ((((((((", "eats --------", "guilty not not not not not not not not", "guilty 1<(1+2*3"}) {
+            new Run().told(-1, open).told(0, "eats " + deep + ";").told(1, "guilty " + deep + "=" + deep + ";").due(true, "by", 1).due(1, "judge", 0);
+            new Run().told(-1, open).told(0, "guilty " + Run.times(8, "not ") + "1=1;").due(true, "by", 0).due(1, "judge", 0);
+        }
+    }
+
+    /** However many and long those with a FAULT were, there is room for all of the next one. */
+    static void p11_manyAndLongFaultyOnes() {
+        Run r = new Run();
+        for (int i = 0; i < 4; i++) r.told(-1, "eats 1" + Run.times(147, "+1"));
+        r.due(0, "eater", 0, 1, 0).told(0, "holds 1" + Run.times(145, "+1") + ";").due(true, "by", 0).due(146, "of", 0, 5);
     }
 
     static void p11_threeHundredBytes() {
@@ -110,6 +129,12 @@ public final class BoundaryTextTest {
         new Run().told(0, " " + sum + ";");
         Run.dueFault(1, 299, sum + ";;");
         Run.dueFault(1, 300, sum + "  ");
+        // TOKENS that could go on, but for the end.
+        for (String last : new String[] {"1", "+1", "+eater", "+11"}) Run.dueFault(1, 300, "eats " + Run.times(294 - last.length(), " ") + "1" + last);
+        for (String last : new String[] {"<", ">", "<=", "#"}) Run.dueFault(1, 300, "guilty " + Run.times(292 - last.length(), " ") + "1" + last);
+        for (String last : new String[] {"eats", "judge", "sit", "flies"}) Run.dueFault(1, 300, Run.times(300 - last.length(), " ") + last);
+        Run.dueFault(1, 299, Run.times(299, " ") + "?");
+        Run.dueFault(2, 295, "eats " + Run.times(290, " ") + "10000");
         new Run().told(0, Run.times(292, " ") + "judge 1;").due(-1, "played", 0).due(1, "about", 2);
     }
 

@@ -275,6 +275,12 @@ public final class BoundaryToldTest {
         r.due(3, "tell", 0, 1).idle(-1, "inWhoseName", 0).due(4, "tell", 0, 1).idle(-1, "inWhoseName", 0);
     }
 
+    /** Who ate just what was told, 0 or more, ate in nobody's name: not in that of one who ate as told, either. */
+    static void p30_justWhatWasTold() {
+        Run r = Run.pots(9, 0, 0, 0).seated(2, 1, 0, 0).seated(2, 1, 0, 0).idle(-1, "inWhoseName", 0).due(3, "spoon", 0, 0).due(1, "tell", 0, 3).idle(-1, "inWhoseName", 0);
+        r.due(3, "spoon", 1, 0).due(2, "tell", 1, 3).idle(-1, "inWhoseName", 0).idle(-1, "inWhoseName", 1).due(0, "liars");
+    }
+
     static void p30_justThatMuchMore() {
         int[][] cases = {{2, -1}, {3, 1}, {4, -1}};
         for (int[] c : cases) Run.pots(9, 0, 0, 0).seated(2, 1, 0, 0).due(1, "eater", 0, 1, 0).due(3, "spoon", 0, 0).due(1, "tell", 1, c[0]).due(c[1], "inWhoseName", 0).due(-1, "inWhoseName", 1);
@@ -360,6 +366,32 @@ public final class BoundaryToldTest {
         r.due(0, "back").due(30, "about", 6).due(x, "about", 3);
         for (int i = 29; i >= 0; i--) r.due(i, "undo");
         r.due(-1, "undo").due(644, "about", 3);
+    }
+
+    /** All sixty SPOONS and thirty DENTS are there again, though others came in the places of those that can be taken back. */
+    static void p32_rowsThatOthersCameFor() {
+        Run spoons = sixtySpoons().due(60, "image");
+        for (int i = 29; i >= 0; i--) spoons.due(i, "undo");
+        spoons.due(true, "sit", 0, 1).due(true, "sit", 1, 0);
+        for (int i = 30; i < 60; i++) spoons.due(2 - i % 2, "spoon", 1 - i % 2, 1);
+        spoons.due(60, "written", -1, 0).due(60, "back").dueAsIn(sixtySpoons().due(60, "image"));
+        Run dents = thirtyDents().due(0, "image");
+        for (int i = 29; i >= 0; i--) dents.due(i, "undo");
+        dents.due(true, "pot", 0, 0, 7);
+        for (int i = 0; i < 30; i++) dents.due(1 - i % 2, "judge", 1 - i % 2);
+        dents.due(30, "dent", -1, 0).due(0, "back").dueAsIn(thirtyDents().due(0, "image"));
+    }
+
+    private static Run sixtySpoons() {
+        Run r = Run.pots(99, 99, 99, 99).seated(0, 9, 0, 0).seated(1, 9, 0, 1);
+        for (int i = 0; i < 60; i++) r.due(1 + i % 2, "spoon", i % 2, i / 5 % 2);
+        return r;
+    }
+
+    private static Run thirtyDents() {
+        Run r = Run.pots(0, 0, 3, 0);
+        for (int i = 0; i < 30; i++) r.due(i % 2, "judge", 1 - i % 2);
+        return r;
     }
 
     static void p32_noStepsWereThere() { new Run().due(0, "image").due(0, "judge", 0).due(0, "back").due(0, "about", 6).due(-1, "undo"); }
