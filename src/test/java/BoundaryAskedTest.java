@@ -1,3 +1,6 @@
+import java.util.Arrays;
+import java.util.Random;
+
 /** The boundary cases that promises 16 to 21 name: what is asked of eaters, spoons, dents, orders, acquittals and sets. */
 public final class BoundaryAskedTest {
     private static final int LEAST = Run.LEAST;
@@ -280,6 +283,72 @@ public final class BoundaryAskedTest {
         // Of HONEY then SALT: left is what counts.
         Run s = Run.pots(0, 0, 8, 8).seated(0, 9, 0, 1).ruledBy("eats left/2+kind*spoons*9;guilty honey+salt>2;").due(3, "acquitted", 1, -1).due(0, "acquitted", 1, 0).due(0, "acquitted", 1, 1).due(1, "acquitted", 1, 2);
         s.due(6, "acquitted", 1, -2);
+        // Spoons of 7, 5 and 3, and 13 are to go: only SALT first is less than it may be.
+        Run u = Run.pots(15, 5, 5, 19).seated(1, 9, 0, 1).seated(0, 9, 0, 1).seated(1, 9, 0, 0).ruledBy("eats 7-spoons*2;guilty honey+salt#7;").due(3, "acquitted", 0, -1).due(8, "acquitted", 0, -2);
+        for (int i = 0; i < 3; i++) u.due(i == 0 ? 5 : 4, "acquitted", 0, i);
+    }
+
+    /** Of courts by laws that hang on order: the same as all rows of up to four SPOONS that are eaten by hand, each in a new court. */
+    static void p20_asTriedByHand() {
+        String[] eats = {"spoons+1", "7-spoons*2", "9-eaten", "eaten+1", "left/2", "left-left/3*3+1", "hunger+1-eaten/3", "eater*4-spoons*3+1", "eater+spoons*kind+1", "hunger+1-spoons*eater*2"};
+        String[] guilty = {"tilt#0", "tilt<0", "honey#salt", "honey+salt#7", "tilt*tilt>2", "tilt#-honey"};
+        Random random = new Random(20);
+        for (int i = 0; i < 120; i++) {
+            int[] grains = new int[4];
+            for (int pot = 0; pot < 4; pot++) grains[pot] = random.nextInt(3) == 0 ? 0 : random.nextInt(25);
+            int[][] eaters = new int[2 + i % 2][];
+            for (int e = 0; e < eaters.length; e++) eaters[e] = new int[] {random.nextInt(6), random.nextInt(2)};
+            new ByHand(grains, eaters, "eats " + eats[i % eats.length] + ";guilty " + guilty[random.nextInt(guilty.length)] + ";", i / 2 % 2).compare();
+        }
+    }
+
+    /** A court in which rows of SPOONS are tried one by one. */
+    private static final class ByHand {
+        private final int[] grains;
+        private final int[][] eaters;
+        private final String law;
+        private final int side;
+        private int[] best = null;
+        private long bestHoney = 0;
+
+        ByHand(int[] grains, int[][] eaters, String law, int side) {
+            this.grains = grains;
+            this.eaters = eaters;
+            this.law = law;
+            this.side = side;
+        }
+
+        private Run court() {
+            Run r = Run.pots(grains[0], grains[1], grains[2], grains[3]);
+            for (int[] e : eaters) r.seated(e[0], 9, 0, e[1]);
+            return r.ruledBy(law);
+        }
+
+        void compare() {
+            for (int n = 0; n <= 4 && best == null; n++) tryAll(new int[n], 0);
+            Run r = court().due(best == null ? -3 : best.length, "acquitted", side, -1).due(best == null ? -3 : bestHoney, "acquitted", side, -2);
+            for (int i = 0; i <= 4; i++) r.due(best == null || i >= best.length ? -3 : best[i], "acquitted", side, i);
+        }
+
+        /** Rows come the lowest first, so that of like ones the first stays. */
+        private void tryAll(int[] row, int at) {
+            if (at == row.length) tryOne(row);
+            else for (row[at] = 0; row[at] < 2 * eaters.length; row[at]++) tryAll(row, at + 1);
+        }
+
+        private void tryOne(int[] row) {
+            Run r = court();
+            long honey = 0;
+            for (int code : row) {
+                long eaten = r.call("spoon", code / 2, code % 2);
+                if (eaten < 1) return;
+                honey += code % 2 == 0 ? eaten : 0;
+            }
+            if (r.call("judge", side) == 0 && (best == null || honey < bestHoney)) {
+                best = Arrays.copyOf(row, row.length);
+                bestHoney = honey;
+            }
+        }
     }
 
     static void p20_side1() {
