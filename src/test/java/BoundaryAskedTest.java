@@ -144,6 +144,8 @@ public final class BoundaryAskedTest {
         r.idle(-9999, "called", MOST, 0, -1).seated(0, 1, 0, 0).due(7, "called", 3, 0, -1).due(-9999, "called", 5, 0, -1);
         Run nine = nineSeated(99).due(98, "called", 256, 0, -1).due(8, "called", 256, 0, 0).idle(-9999, "called", 512, 0, -1).idle(-9999, "called", 513, 0, -1).idle(-9999, "called", 256 | LEAST, 0, -1);
         nine.due(-9999, "called", 1 << 30, 0, -1).due(-9999, "called", 1 << 30, 0, 0).due(-9999, "called", 1025, 0, 0);
+        // Nor is there a first one of a set of whom none is there, though another set was asked of ahead of it.
+        nine.due(98, "called", 32, 0, -1).due(5, "called", 32, 0, 0).idle(-9999, "called", 512, 0, 0).idle(-9999, "called", 512, 1, 0).idle(-9999, "called", 544, 0, 0).idle(-9999, "called", 544, 0, 1);
     }
 
     static void p19_sixAndASeventh() {

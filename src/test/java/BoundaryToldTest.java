@@ -124,6 +124,13 @@ public final class BoundaryToldTest {
 
     static void p25_awayOrNot() { new Run().due(0, "eater", 0, 1, 0).due(1, "hired", 20).due(true, "sit", 0, 1).due(1, "hired", 20); }
 
+    /** EATERS who are gone with what was told behind the image are hired no more, whatever they held. */
+    static void p25_goneBehindBack() {
+        new Run().due(0, "eater", 0, 9, 0).due(1, "hired", 180).due(0, "back").idle(-1, "hired", 1).due(0, "eater", 0, 1, 0).due(1, "hired", 20).idle(-1, "hired", 21);
+        Run r = new Run().due(0, "eater", 0, 1, 9).due(0, "image").due(1, "eater", 0, 9, 0).due(2, "hired", 20).due(2, "hired", 180).due(0, "back").due(1, "hired", 20).idle(-1, "hired", 21);
+        r.due(1, "eater", 0, 2, 99).due(1, "hired", 20).due(2, "hired", 21).due(3, "hired", 41).idle(-1, "hired", 61);
+    }
+
     // Promise 26: contrary.
 
     static void p26_noDents() { new Run().idle(-1, "contrary"); }

@@ -7,7 +7,9 @@ import java.nio.file.Path;
 import java.util.ArrayList;
 import java.util.Arrays;
 import java.util.List;
+import java.util.Map;
 import java.util.Set;
+import java.util.TreeMap;
 import java.util.TreeSet;
 import java.util.regex.Matcher;
 import java.util.regex.Pattern;
@@ -104,16 +106,58 @@ public final class LanguageTest {
         Set<String> known = Set.of("Math.min", "Math.max", "Math.abs", "Integer.bitCount", "System.arraycopy");
         while (used.find()) must(known.contains(used.group()), "a known function: " + used.group());
         lengths(text.split("\n"));
+        depths(bare.split("\n"));
     }
+
+    private static final String METHOD = "( {4}| {8})(private |public |static |final )*[\\w\\[\\]]* ?(\\w+)\\((.*)\\) \\{";
 
     private static void lengths(String[] lines) {
         int start = 0;
         for (int i = 0; i < lines.length; i++) {
             String line = lines[i];
             must(line.length() <= 200, "a line that can be read: " + (i + 1));
-            if (line.matches("( {4}| {8})(private |public |static |final )*[\\w\\[\\]]* ?\\w+\\(.*\\{")) start = i;
+            if (line.matches(METHOD)) start = i;
             if (line.matches(" {4}( {4})?\\}")) must(i - start < 61, "a short method at line " + (start + 1));
         }
+    }
+
+    /** Calls go at most eight deep, and who calls itself carries its depth; methods of one name count as one. */
+    private static void depths(String[] lines) {
+        Map<String, Set<String>> calls = new TreeMap<>();
+        Map<String, String> given = new TreeMap<>();
+        String in = "";
+        for (String line : lines) {
+            Matcher m = Pattern.compile(METHOD).matcher(line);
+            if (m.matches() && !line.matches(" *(if|for|while|switch) .*")) {
+                in = m.group(3);
+                given.merge(in, m.group(4), (a, b) -> a);
+                calls.computeIfAbsent(in, name -> new TreeSet<>());
+            } else if (!in.isEmpty()) {
+                Matcher called = Pattern.compile("\\b(\\w+)\\(").matcher(line);
+                while (called.find()) calls.get(in).add(called.group(1));
+            }
+        }
+        must(calls.size() > 60 && calls.containsKey("trySpoons") && calls.get("read").contains("readClause"), "methods are found: " + calls.keySet());
+        for (Set<String> names : calls.values()) names.retainAll(calls.keySet());
+        for (String name : calls.keySet()) {
+            // The copies of scenes, steps and courts bear one name, and each calls the lesser one's.
+            boolean itself = calls.get(name).remove(name) && !name.equals("copyFrom");
+            must(!itself || given.get(name).contains("int depth"), "its depth is carried: " + name);
+        }
+        for (String name : calls.keySet()) {
+            int deep = deepest(name, calls, new ArrayList<>());
+            must(deep <= 8, "at most eight deep: " + name + " goes " + deep);
+        }
+    }
+
+    private static int deepest(String name, Map<String, Set<String>> calls, List<String> open) {
+        must(!open.contains(name), "none that call one another in a circle: " + name);
+        if (open.contains(name)) return 0;
+        open.add(name);
+        int deep = 0;
+        for (String next : calls.get(name)) deep = Math.max(deep, deepest(next, calls, open));
+        open.remove(name);
+        return deep + 1;
     }
 
     /** What calls make stays in the room: they make nothing, and a new object is small. */
