@@ -177,6 +177,10 @@ public final class BoundaryAskedTest {
         new Run().seated(9, 9, 0, 1).seated(9, 9, 0, 0).due(0, "called", 3, 0, -1).due(0, "called", 3, 0, 0).due(1, "called", 3, 0, 1);
         // Who can't is none of the spoons that were eaten: so the second eats 1, not 2.
         Run.pots(9, 0, 0, 0).seated(0, 1, 0, 1).seated(0, 1, 0, 0).ruledBy("eats spoons+1;").due(8, "called", 3, 0, -1).due(0, "called", 3, 0, 0);
+        // Nor is it one less for the orders that are tried behind that one.
+        Run.pots(9, 0, 0, 0).seated(0, 1, 0, 1).seated(0, 1, 0, 0).ruledBy("eats 3-spoons;").due(6, "called", 3, 0, -1).due(0, "called", 3, 0, 0).due(1, "called", 3, 0, 1);
+        Run three = Run.pots(9, 0, 0, 0).seated(0, 1, 0, 1).seated(0, 1, 0, 1).seated(0, 1, 0, 0).ruledBy("eats spoons*9+2;").due(7, "called", 7, 0, -1);
+        for (int i = 0; i < 3; i++) three.due(i, "called", 7, 0, i);
     }
 
     /** The first who is called eats 1, the second 2: 0 is called first, unless it is less level so. */

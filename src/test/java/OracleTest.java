@@ -15,7 +15,7 @@ public final class OracleTest {
         long calls = 0;
         for (int seed = 1; seed <= 1500 && wrong == 0; seed++) {
             calls += new Run(seed).go();
-            calls += new Run(-seed).seekAcquittals();
+            calls += new Run(-seed).tryOrders();
         }
         System.out.println(wrong == 0 ? calls + " calls are as the oracle's" : wrong + " calls are not as the oracle's");
         if (wrong != 0) System.exit(1);
@@ -34,14 +34,14 @@ public final class OracleTest {
         Run(int seed) { this.seed = seed; this.random = new Random(seed); this.mood = Math.abs(seed) % 5; }
 
         int go() {
-            int most = 60 + random.nextInt(450);
+            int most = 60 + random.nextInt(425);
             if (random.nextInt(4) > 0) setUp();
             while (count < most && wrong == 0) step();
             return count;
         }
 
         /** Where it counts who eats first: laws by which a spoon hangs on those ahead of it. */
-        int seekAcquittals() {
+        int tryOrders() {
             String[] eats = {"left/10+1", "left-left/3*3+1", "spoons+1", "7-spoons*2", "eaten+1", "9-eaten", "eater+spoons*kind+1", "left*(eater+1)/20",
                 "hunger+1-eaten/3", "(spoons+eater)*2-kind", "side+left/(spoons+2)", "4"};
             String[] guilty = {"tilt#0", "tilt<0", "tilt*tilt>2", "honey#salt", "honey-salt<3", "honey+salt#7", "tilt#-honey", "salt>2 or tilt<1"};
@@ -55,13 +55,19 @@ public final class OracleTest {
                 bring(law, law.length());
                 due("text() of " + law, scales.text(), oracle.text());
                 due("by(" + i + ")", scales.by(i), oracle.by(i));
-                callAcquitted();
+                askWhereOrderCounts();
                 for (int more = 0; more < 4; more++) {
                     change();
-                    callAcquitted();
+                    askWhereOrderCounts();
                 }
             }
             return count;
+        }
+
+        void askWhereOrderCounts() {
+            callAcquitted();
+            callCalled();
+            callSets();
         }
 
         /** One call that may change what an acquittal takes. */
@@ -80,6 +86,7 @@ public final class OracleTest {
 
         void due(String call, long got, long want) {
             count++;
+            if (count > 512) throw new IllegalStateException("more than 512 calls");
             log.add(call + " -> " + want);
             if (got == want) return;
             wrong++;
